@@ -288,7 +288,9 @@ public final class ImageFile {
 
         void addZerosTo(int end) {
             if (end >= count && makeRoom(end - count)) {
-                Arrays.fill(row, count, end, (byte) 0);
+                for (int k = count; k < end; k++) {
+                    row[k] = 0;
+                }
                 count = end;
             }
         }
