@@ -1,3 +1,4 @@
+import java.util.Arrays;
 import java.util.function.Consumer;
 
 /** Promises 15 and 16: read and place, each fault with its place and its edges. */
@@ -21,6 +22,7 @@ public final class ReadingTest {
         tableAddresses();
         tableLengths();
         longSegments();
+        longestText();
         sharedBytes();
         memory();
         note();
@@ -114,6 +116,7 @@ public final class ReadingTest {
         u2(9, 46, 1, 256, 65535);
         u2(9, 48, 1, 256, 65535);
         u2(9, 50, 1, 256, 65535);
+        due("a TABLE of TEXT alone", 24, 44, raw -> raw.u2(44, 1));
         due("a TABLE of eight beyond n", 10, 28, raw -> raw.u2(44, 8));
         due("the TABLE one byte beyond n", 10, 28, raw -> raw.cut(179));
         due("the TABLE up to n", 12, TEXT + 4, raw -> raw.cut(180));
@@ -146,6 +149,7 @@ public final class ReadingTest {
             mended(raw, 4100, 4096, 0, Samples.TEXT, 4116, 0, 8192, 5, Samples.DATA, Samples.MARKS);
             due("no bytes, at " + begin, 0, -1, raw);
         }
+        due("one byte, below 52", 12, CONST + 4, raw -> raw.u4(CONST + 4, 51).u4(CONST + 16, 1).u4(CONST + 20, 1));
         due("no bytes, beyond n", 12, CONST + 4,
             raw -> raw.u4(CONST + 4, Samples.SIZE + 1).u4(CONST + 16, 0).u4(CONST + 20, 0));
     }
@@ -214,6 +218,56 @@ public final class ReadingTest {
                 CHECK.due("read() with " + c[0], x.read(), fault);
                 CHECK.due("place() with " + c[0], x.place(), place);
             }
+        }
+    }
+
+    /** 4096 bytes of TEXT with a MARK at each even offset: all but two bytes are zeros between pages. */
+    private static void longestText() {
+        ImageFile x = new ImageFile();
+        x.page(12);
+        x.segment(0, 0, 0);
+        x.put(0, 2, 0);
+        x.mark(0, true);
+        x.segment(2, 8192, 0);
+        CHECK.due("write() of two pages", x.write(), 8192 + 32);
+        x.cut(8192 + 28);
+        for (int i = 0; i < 32; i++) {
+            x.feed(8, -1);
+        }
+        byte[] marks = new byte[256];
+        Arrays.fill(marks, (byte) -1);
+        long sum = RawFile.sum(0, 0, 0, new byte[4096], 8192, 0, marks);
+        spoilU4(x, 52 + 16, 4096);
+        spoilU4(x, 52 + 20, 4096);
+        spoilU4(x, 116 + 16, 284);
+        spoilU4(x, 8192 + 4, 264);
+        spoilU4(x, 8192 + 20, 2048);
+        spoilU4(x, 8192 + 24, sum);
+        CHECK.due("read() of the longest TEXT", x.read(), 0);
+        CHECK.due("about(0, 2)", x.about(0, 2), 4096);
+        CHECK.due("told(2)", x.told(2), (int) sum);
+        CHECK.due("told(3)", x.told(3), 2048);
+        CHECK.due("told(4)", x.told(4), 2048);
+        CHECK.due("marked(4094)", x.marked(4094), 2);
+        CHECK.due("marked(4096)", x.marked(4096), 0);
+        CHECK.due("markBelow(4095)", x.markBelow(4095), 4094);
+        CHECK.due("markBelow(131071)", x.markBelow(131071), 4094);
+        x.keep();
+        CHECK.due("put() behind 4096 bytes", x.put(0, 1, 0), false);
+        CHECK.due("mark(4094, true)", x.mark(4094, true), false);
+        CHECK.due("write() of what was kept", x.write(), 8192 + 284);
+        CHECK.due("read()", x.read(), 0);
+        x.spoil(4096 + 4094, 3);
+        CHECK.due("read() with four bytes at the end", x.read(), 27);
+        CHECK.due("place()", x.place(), 8192 + 28 + 255);
+        x.spoil(4096 + 14, 3);
+        CHECK.due("read() with four bytes at 14", x.read(), 27);
+        CHECK.due("place()", x.place(), 8192 + 28);
+    }
+
+    private static void spoilU4(ImageFile x, int at, long number) {
+        for (int i = 0; i < 4; i++) {
+            x.spoil(at + i, (int) (number >>> 8 * i));
         }
     }
 

@@ -89,6 +89,9 @@ public final class WritingTest {
             CHECK.due("last MARK BYTE of " + size, x.byteAt(begin + 28 + markBytes - 1), last);
             CHECK.due("bytes behind the name of " + size, x.byteAt(begin + 4), 8 + (markBytes + 3) / 4 * 4);
             CHECK.due("half of " + size, x.byteAt(begin + 20), size / 2);
+            for (int k = begin + 28 + markBytes; k < x.size(); k++) {
+                CHECK.due("byteAt(" + k + ") behind the MARK BYTES", x.byteAt(k), 0);
+            }
             CHECK.due("read()", x.read(), 0);
             CHECK.due("told(3) of " + size, x.told(3), size / 2);
         }
