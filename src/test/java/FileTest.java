@@ -1,127 +1,167 @@
 /** Promises 10 to 14: size, byteAt, feed, cut, spoil. */
 public final class FileTest {
     private static final Check CHECK = new Check("FileTest");
+    private static final int NONE = -1;
+    private static final long EIGHT = 0x80ff017f00fe1234L;
+    private static final int[] BYTES = {0x80, 0xff, 0x01, 0x7f, 0x00, 0xfe, 0x12, 0x34};
 
     public static void main(String[] args) {
-        feed();
-        feedRefused();
-        feedUpToLimit();
+        size();
         byteAt();
+        feed();
         cut();
         spoil();
-        writeReplaces();
         CHECK.finish();
     }
 
-    private static void feed() {
-        ImageFile x = new ImageFile();
-        int size = 0;
-        for (int n = 1; n <= 8; n++) {
-            CHECK.due("feed(" + n + ")", x.feed(n, 0x80ff017f00fe1234L), true);
-            for (int i = 0; i < n; i++) {
-                CHECK.due("byteAt(" + (size + i) + ")", x.byteAt(size + i), 0xff & (int) (0x80ff017f00fe1234L >>> 56 - 8 * i));
-            }
-            size += n;
-            CHECK.due("size()", x.size(), size);
-            CHECK.due("byteAt() at the end", x.byteAt(size), -1);
-        }
+    private static Hand fresh() {
+        return new Hand(CHECK);
     }
 
-    private static void feedRefused() {
-        ImageFile x = new ImageFile();
-        x.feed(3, -1);
-        for (int wrong : new int[] {0, -1, 9, Integer.MIN_VALUE, Integer.MAX_VALUE}) {
-            CHECK.due("feed(" + wrong + ")", x.feed(wrong, 5), false);
-            CHECK.due("size()", x.size(), 3);
-        }
+    private static RawFile raw(int... bytes) {
+        return RawFile.ofSize(bytes.length).bytes(0, bytes);
+    }
+
+    /** A FILE of n bytes below 16,384, all but the last ones by writing. */
+    private static Hand nearlyFull(int n) {
+        return Samples.fullFile(CHECK).cut(n);
+    }
+
+    // Promise 10
+
+    private static void size() {
+        CHECK.sentence("Promise 10", "How many bytes the FILE has.", () -> {
+            fresh().size(0).feed(1, 0, true).size(1).feed(8, 0, true).size(9).cut(4).size(4).cut(0).size(0);
+            Samples.textAt(CHECK, 64).size(0).write(156).size(156).feed(3, 0, true).size(159).write(156).size(156);
+            Samples.fullFile(CHECK).size(16384).cut(16383).size(16383).read(12, 148 + 4).size(16383).keep().size(16383);
+        });
+        CHECK.sentence("Terms", "(none at first)", () -> fresh().size(0).write(-1).size(0).read(1, 0).size(0));
+    }
+
+    // Promise 11
+
+    private static void byteAt() {
+        CHECK.sentence("Promise 11", "Byte k of the FILE, 0 .. 255", () -> {
+            for (int first = 0; first < 256; first += 8) {
+                Hand hand = fresh();
+                for (int b = first; b < first + 8; b++) {
+                    hand.feed(1, Samples.highest(b), true).byteAt(b - first, b);
+                }
+            }
+            Samples.allThree(CHECK).write(Samples.SIZE).fileIs(Samples.fileOfAllThree());
+        });
+        CHECK.sentence("Promise 11", "NONE when there is none", () -> {
+            Hand hand = fresh().byteAt(0, NONE).byteAt(-1, NONE).byteAt(1, NONE);
+            hand.feed(2, Samples.highest(255, 128), true).byteAt(0, 255).byteAt(1, 128).byteAt(-1, NONE).byteAt(2, NONE);
+            for (int far : Samples.FAR) {
+                hand.byteAt(far, NONE);
+            }
+            hand.byteAt(16383, NONE).byteAt(16384, NONE).size(2);
+            // What was cut off, or of a longer FILE ahead, is not there.
+            hand.cut(1).byteAt(0, 255).byteAt(1, NONE).cut(0).byteAt(0, NONE);
+            Samples.textAt(CHECK, 0).feed(RawFile.ofSize(200)).write(156).byteAt(155, 0).byteAt(156, NONE);
+            Samples.fullFile(CHECK).byteAt(0, 127).byteAt(16383, 255).byteAt(16384, NONE).byteAt(-1, NONE);
+        });
+    }
+
+    // Promise 12
+
+    private static void feed() {
+        CHECK.sentence("Promise 12", "The n highest bytes of eight (the highest first) come behind the FILE.", () -> {
+            Hand hand = fresh();
+            int size = 0;
+            for (int n = 1; n <= 8; n++) {
+                hand.feed(n, EIGHT, true).size(size + n);
+                for (int i = 0; i < n; i++) {
+                    hand.byteAt(size + i, BYTES[i]);
+                }
+                size += n;
+                hand.byteAt(size, NONE);
+            }
+            Samples.textAt(CHECK, 64).write(156).feed(2, EIGHT, true).size(158).byteAt(155, 0).byteAt(156, 0x80)
+                .byteAt(157, 0xff).byteAt(158, NONE).read();
+        });
+        CHECK.sentence("Promise 12", "come behind the FILE", () ->
+            // What a longer FILE had there doesn't shine through.
+            fresh().feed(8, -1, true).cut(3).feed(2, 0, true).fileIs(raw(255, 255, 255, 0, 0)).cut(0).feed(1, EIGHT, true)
+                .fileIs(raw(0x80)));
+        CHECK.sentence("Promise 12", "when n isn't 1 .. 8", () -> {
+            Hand none = fresh().feed(0, -1, false).feed(9, -1, false).size(0).byteAt(0, NONE);
+            none.feed(1, EIGHT, true).feed(0, -1, false).feed(-1, -1, false).feed(9, -1, false).fileIs(raw(0x80));
+            none.feed(8, EIGHT, true).feed(9, -1, false).feed(16, -1, false).feed(-8, -1, false);
+            for (int wrong : Samples.FAR) {
+                none.feed(wrong, -1, false);
+            }
+            none.fileIs(raw(0x80, 0x80, 0xff, 0x01, 0x7f, 0x00, 0xfe, 0x12, 0x34));
+        });
+        CHECK.sentence("Promise 12", "or it would have more than 16,384", FileTest::feedUpToLimit);
     }
 
     private static void feedUpToLimit() {
-        ImageFile x = Samples.longest();
-        x.write();
-        CHECK.due("feed(1) behind 16,384", x.feed(1, 0), false);
-        CHECK.due("cut(16384)", x.cut(16384), true);
-        CHECK.due("cut(16385)", x.cut(16385), false);
-        CHECK.due("cut(16379)", x.cut(16379), true);
-        CHECK.due("feed(6) up to 16,385", x.feed(6, -1), false);
-        CHECK.due("size()", x.size(), 16379);
-        CHECK.due("byteAt() of what was refused", x.byteAt(16379), -1);
-        CHECK.due("feed(5) up to 16,384", x.feed(5, 0x0102030405060708L), true);
-        CHECK.due("size()", x.size(), 16384);
-        CHECK.due("byteAt(16383)", x.byteAt(16383), 5);
-        CHECK.due("byteAt(16384)", x.byteAt(16384), -1);
-        CHECK.due("feed(1) behind 16,384", x.feed(1, 0), false);
-        CHECK.due("feed(8) behind 16,384", x.feed(8, 0), false);
-    }
-
-    private static void byteAt() {
-        ImageFile x = new ImageFile();
-        CHECK.due("byteAt(0) of none", x.byteAt(0), -1);
-        x.feed(2, Samples.highest(255, 128));
-        CHECK.due("byteAt(0)", x.byteAt(0), 255);
-        CHECK.due("byteAt(1)", x.byteAt(1), 128);
-        for (int wrong : new int[] {-1, 2, 16384, Integer.MIN_VALUE, Integer.MAX_VALUE}) {
-            CHECK.due("byteAt(" + wrong + ")", x.byteAt(wrong), -1);
+        for (int n = 1; n <= 8; n++) {
+            Hand hand = nearlyFull(16384 - n);
+            for (int more = n + 1; more <= 8; more++) {
+                hand.feed(more, EIGHT, false);
+            }
+            hand.size(16384 - n).byteAt(16384 - n, NONE).byteAt(16383 - n, 255).feed(n, EIGHT, true).size(16384);
+            for (int i = 0; i < n; i++) {
+                hand.byteAt(16384 - n + i, BYTES[i]);
+            }
+            for (int more = 1; more <= 8; more++) {
+                hand.feed(more, 0, false);
+            }
+            hand.size(16384).byteAt(16383, BYTES[n - 1]).byteAt(16384, NONE).byteAt(0, 127);
         }
     }
+
+    // Promise 13
 
     private static void cut() {
-        ImageFile x = new ImageFile();
-        CHECK.due("cut(0) of none", x.cut(0), true);
-        CHECK.due("cut(1) of none", x.cut(1), false);
-        x.feed(8, 0x0102030405060708L);
-        for (int wrong : new int[] {-1, 9, Integer.MIN_VALUE, Integer.MAX_VALUE}) {
-            CHECK.due("cut(" + wrong + ")", x.cut(wrong), false);
-            CHECK.due("size()", x.size(), 8);
-        }
-        CHECK.due("cut(8)", x.cut(8), true);
-        CHECK.due("size()", x.size(), 8);
-        CHECK.due("cut(3)", x.cut(3), true);
-        CHECK.due("size()", x.size(), 3);
-        CHECK.due("byteAt(2)", x.byteAt(2), 3);
-        CHECK.due("byteAt(3)", x.byteAt(3), -1);
-        CHECK.due("spoil(3) of what is cut", x.spoil(3, 1), -1);
-        CHECK.due("cut(4) of three", x.cut(4), false);
-        x.feed(1, Samples.highest(99));
-        CHECK.due("byteAt(3) after feed", x.byteAt(3), 99);
-        CHECK.due("cut(0)", x.cut(0), true);
-        CHECK.due("size()", x.size(), 0);
-        CHECK.due("byteAt(0)", x.byteAt(0), -1);
+        CHECK.sentence("Promise 13", "The FILE has its first n bytes alone.", () -> {
+            for (int n = 0; n <= 8; n++) {
+                Hand hand = fresh().feed(8, EIGHT, true).cut(n, true).size(n);
+                for (int k = 0; k < 8; k++) {
+                    hand.byteAt(k, k < n ? BYTES[k] : NONE);
+                }
+                hand.spoil(n, 1, NONE).size(n);
+            }
+        });
+        CHECK.sentence("Promise 13", "when n isn't 0 .. how many there are", () -> {
+            fresh().cut(0, true).cut(1, false).cut(-1, false).size(0);
+            Hand hand = fresh().feed(8, EIGHT, true).cut(8, true).cut(9, false).cut(-1, false);
+            for (int wrong : Samples.FAR) {
+                hand.cut(wrong, false);
+            }
+            hand.fileIs(raw(BYTES)).cut(7, true).cut(8, false).fileIs(raw(0x80, 0xff, 1, 0x7f, 0, 0xfe, 0x12));
+            hand.cut(0, true).cut(1, false).cut(0, true).size(0);
+            Samples.fullFile(CHECK).cut(16385, false).cut(16384, true).size(16384).cut(16383, true).cut(16384, false)
+                .size(16383).byteAt(16382, 255).cut(0, true).size(0).cut(1, false);
+        });
     }
+
+    // Promise 14
 
     private static void spoil() {
-        ImageFile x = new ImageFile();
-        CHECK.due("spoil(0) of none", x.spoil(0, 1), -1);
-        CHECK.due("size()", x.size(), 0);
-        x.feed(4, 0xfffefd0000000000L);
-        CHECK.due("spoil(0, 256)", x.spoil(0, 256), 255);
-        CHECK.due("byteAt(0)", x.byteAt(0), 0);
-        CHECK.due("spoil(1, -1)", x.spoil(1, -1), 254);
-        CHECK.due("byteAt(1)", x.byteAt(1), 255);
-        CHECK.due("spoil(3, 0x12345680)", x.spoil(3, 0x12345680), 0);
-        CHECK.due("byteAt(3)", x.byteAt(3), 0x80);
-        CHECK.due("spoil(3, 128): what it was", x.spoil(3, 128), 128);
-        CHECK.due("byteAt(2): not touched", x.byteAt(2), 253);
-        for (int wrong : new int[] {-1, 4, Integer.MIN_VALUE, Integer.MAX_VALUE}) {
-            CHECK.due("spoil(" + wrong + ", 1)", x.spoil(wrong, 1), -1);
-        }
-        CHECK.due("size()", x.size(), 4);
-    }
-
-    private static void writeReplaces() {
-        ImageFile x = Samples.textAt(64);
-        for (int i = 0; i < 40; i++) {
-            x.feed(8, -1);
-        }
-        CHECK.due("size() before write()", x.size(), 320);
-        CHECK.due("write()", x.write(), 156);
-        CHECK.due("size()", x.size(), 156);
-        CHECK.due("byteAt(0)", x.byteAt(0), 127);
-        CHECK.due("byteAt(7)", x.byteAt(7), 0);
-        CHECK.due("byteAt(122): between TEXT and NOTE", x.byteAt(122), 0);
-        CHECK.due("byteAt(123): between TEXT and NOTE", x.byteAt(123), 0);
-        CHECK.due("byteAt(155): the end of the NOTE", x.byteAt(155), 0);
-        CHECK.due("byteAt(156)", x.byteAt(156), -1);
-        CHECK.due("read()", x.read(), 0);
+        CHECK.sentence("Promise 14", "Byte k of the FILE becomes the lowest eight bits of b: what it was.", () -> {
+            Hand hand = fresh().feed(3, Samples.highest(255, 0, 128), true);
+            int[] values = {0, 255, 256, -1, -256, 511, 0x12345680, 127, Integer.MIN_VALUE, Integer.MAX_VALUE, 128};
+            int was = 0;
+            for (int b : values) {
+                hand.spoil(1, b, was).byteAt(1, b & 255);
+                was = b & 255;
+            }
+            hand.spoil(1, 128, 128).fileIs(raw(255, 128, 128)).spoil(0, 1, 255).spoil(2, 2, 128).fileIs(raw(1, 128, 2));
+        });
+        CHECK.sentence("Promise 14", "NONE, refused, when there is none.", () -> {
+            fresh().spoil(0, 5, NONE).spoil(-1, 5, NONE).size(0).byteAt(0, NONE);
+            Hand hand = fresh().feed(4, EIGHT, true).spoil(-1, 5, NONE).spoil(4, 5, NONE);
+            for (int wrong : Samples.FAR) {
+                hand.spoil(wrong, 5, NONE);
+            }
+            hand.fileIs(raw(0x80, 0xff, 1, 0x7f)).spoil(0, 9, 0x80).spoil(3, 8, 0x7f).fileIs(raw(9, 0xff, 1, 8));
+            hand.cut(3).spoil(3, 5, NONE).feed(1, 0, true).fileIs(raw(9, 0xff, 1, 0));
+            Samples.fullFile(CHECK).spoil(16384, 1, NONE).size(16384).spoil(16383, 1, 255).byteAt(16383, 1)
+                .spoil(0, 1, 127).byteAt(0, 1).read(2, 0);
+        });
     }
 }

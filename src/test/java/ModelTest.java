@@ -36,7 +36,7 @@ public final class ModelTest {
         for (int fault = 0; fault <= 30; fault++) {
             CHECK.yes("fault " + fault + " was met", SEEN[fault] >= 10 || fault == 20);
         }
-        for (int fault = 1; fault <= 5; fault++) {
+        for (int fault = 1; fault <= 6; fault++) {
             CHECK.yes("write() refused by " + fault, REFUSED[fault] >= 10);
         }
         System.out.println("faults met: " + Arrays.toString(SEEN));
@@ -74,7 +74,6 @@ public final class ModelTest {
         if (answer < 0) {
             REFUSED[-answer]++;
         }
-        both.compareFiles();
     }
 
     private void look(int times) {
@@ -107,6 +106,7 @@ public final class ModelTest {
                 both.keep();
             }
         }
+        both.compareFiles();
     }
 
     private void changeMade() {
@@ -189,6 +189,7 @@ public final class ModelTest {
         look(8);
         both.keep();
         write();
+        both.compareFiles();
         if (chance(30)) {
             both.spoil(below(Math.max(1, both.m.size())), 1 << below(8));
             read();
@@ -371,12 +372,15 @@ public final class ModelTest {
         }
         both.mark(2, true);
         both.entry((int) both.m.made.segs[0].address + 2);
+        if (chance(50)) {
+            spreadOut(10);
+        }
         write();
         RawFile raw = new RawFile(both.m.file.clone());
         int rows = raw.bytes[44];
         for (int i = 1 + below(2); i > 0; i--) {
-            int row = 52 + 32 * below(rows);
-            int[] lengths = {4095, 4096, 4097, 8, 0, 5000};
+            int row = 52 + 32 * (rows == 4 && chance(50) ? 1 : below(rows));
+            int[] lengths = {4095, 4096, 4096, 4097, 8, 0, 5000};
             long length = lengths[below(lengths.length)];
             raw.u4(row + 16, length);
             if (chance(80)) {
@@ -392,6 +396,10 @@ public final class ModelTest {
         read();
         look(5);
         both.keep();
+        if (chance(70)) {
+            spreadOut(120);
+        }
+        write();
         for (int i = 0; i < 3; i++) {
             both.put(2 - below(2), 1 + below(8), random.nextLong());
         }
@@ -400,5 +408,27 @@ public final class ModelTest {
             both.feed(8, random.nextLong());
         }
         both.size();
+        both.compareFiles();
+    }
+
+    /** Addresses by which the BYTES lie nearly as far apart in the FILE as they can. */
+    private void spreadOut(int less) {
+        Model.Img img = both.m.made;
+        if (img.segs[0] == null) {
+            return;
+        }
+        both.page(12);
+        int at = 52 + 32;
+        for (Model.Seg seg : img.segs) {
+            at += seg == null ? 0 : 32;
+        }
+        for (int s = 0; s < 3; s++) {
+            if (img.segs[s] != null) {
+                int rest = Math.floorMod(at - 1 - below(less), 4096);
+                both.segment(s, 16384 * s + rest, 0);
+                at += Math.floorMod(rest - at, 4096) + img.segs[s].bytes.length;
+            }
+        }
+        both.entry((int) img.segs[0].address + 2);
     }
 }

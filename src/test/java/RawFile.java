@@ -16,18 +16,6 @@ final class RawFile {
         return new RawFile(new byte[n]);
     }
 
-    static RawFile of(ImageFile x) {
-        RawFile raw = ofSize(x.size());
-        for (int k = 0; k < raw.bytes.length; k++) {
-            raw.bytes[k] = (byte) x.byteAt(k);
-        }
-        return raw;
-    }
-
-    RawFile copy() {
-        return new RawFile(bytes.clone());
-    }
-
     RawFile head(long entry, int tableBegin, int flags, int rows) {
         bytes(0, 127, 69, 76, 70, 1, 1, 1, 0, 0, 0, 0, 0, 0, 0, 0, 0);
         u2(16, 2).u2(18, 243).u4(20, 1).u4(24, entry).u4(28, tableBegin).u4(32, 0).u4(36, flags);
@@ -73,21 +61,6 @@ final class RawFile {
 
     int byteOrZero(int k) {
         return k < bytes.length ? bytes[k] & 255 : 0;
-    }
-
-    ImageFile fed() {
-        ImageFile x = new ImageFile();
-        feedTo(x);
-        return x;
-    }
-
-    void feedTo(ImageFile x) {
-        for (int k = 0; k < bytes.length; k += 8) {
-            int n = Math.min(8, bytes.length - k);
-            if (!x.feed(n, highest(k, n))) {
-                throw new IllegalStateException("a feed was refused at " + k);
-            }
-        }
     }
 
     long highest(int k, int n) {

@@ -8,23 +8,24 @@ public final class RoomTest {
     private static long answers;
 
     public static void main(String[] args) {
-        long[] bytes = new long[4];
         // Twice, so that what the machine makes when a class is first used isn't counted.
         for (int round = 0; round < 2; round++) {
-            bytes[0] = THREADS.getCurrentThreadAllocatedBytes();
-            manyObjects();
-            bytes[1] = THREADS.getCurrentThreadAllocatedBytes();
-            ImageFile x = Samples.longest();
-            bytes[2] = THREADS.getCurrentThreadAllocatedBytes();
-            dearCalls(x);
-            bytes[3] = THREADS.getCurrentThreadAllocatedBytes();
+            small("512 objects", 2_000_000, RoomTest::manyObjects, round);
+            small("an object with dear calls", 100_000, RoomTest::dearCalls, round);
+            small("an object that is filled", 100_000, RoomTest::filled, round);
         }
-        System.out.println("512 objects: " + (bytes[1] - bytes[0]) + " bytes; the longest image: "
-            + (bytes[2] - bytes[1]) + "; calls on it: " + (bytes[3] - bytes[2]) + " (" + answers + ")");
-        CHECK.yes("512 objects take less than 2,000,000 bytes", bytes[1] - bytes[0] < 2_000_000);
-        CHECK.yes("the longest image takes less than 40,000 bytes", bytes[2] - bytes[1] < 40_000);
-        CHECK.yes("calls on it take less than 100,000 bytes", bytes[3] - bytes[2] < 100_000);
+        System.out.println("(" + answers + ")");
         CHECK.finish();
+    }
+
+    private static void small(String what, long limit, Runnable calls, int round) {
+        long before = THREADS.getCurrentThreadAllocatedBytes();
+        calls.run();
+        long bytes = THREADS.getCurrentThreadAllocatedBytes() - before;
+        if (round > 0) {
+            System.out.println(what + ": " + bytes + " bytes");
+            CHECK.yes(what + " takes less than " + limit + " bytes", bytes < limit);
+        }
     }
 
     private static void manyObjects() {
@@ -33,10 +34,27 @@ public final class RoomTest {
         }
     }
 
-    private static void dearCalls(ImageFile x) {
-        for (int i = 0; i < 40; i++) {
-            answers += x.write() + x.read() + x.told(2) + x.told(4) + x.wordIn(200 + i) + x.markBelow(9000);
+    /** A FILE of 12,500 bytes by pages, written, read and kept up to the 512th call. */
+    private static void dearCalls() {
+        ImageFile x = new ImageFile();
+        x.page(12);
+        x.segment(0, 179, 0);
+        x.put(0, 2, 0);
+        x.segment(1, 8372, 0);
+        x.segment(2, 16563, 0);
+        x.mark(0, true);
+        x.entry(179);
+        for (int i = 0; i < 72; i++) {
+            answers += x.write() + x.read() + x.told(2) + x.told(4) + x.wordIn(i) + x.markBelow(9000);
             x.keep();
+        }
+    }
+
+    private static void filled() {
+        ImageFile x = new ImageFile();
+        x.segment(1, 0, 0);
+        for (int i = 0; i < 255; i++) {
+            answers += x.put(1, 8, i) && x.feed(8, i) ? 1 : 0;
         }
     }
 }
